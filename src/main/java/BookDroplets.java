@@ -307,9 +307,8 @@ public final class BookDroplets {
             return TOO_MANY;
         }
         int place = now.cupCount;
+        // the cup there is empty: so are all that have not come yet, in states that are brought back, too
         now.cupCount++;
-        // an undone cup may have left droplets at this place
-        emptyCup(place);
         return place;
     }
 
@@ -372,9 +371,7 @@ public final class BookDroplets {
                 break;
             }
             carried++;
-            if (!pad.skip(';')) {
-                break;
-            }
+            pad.skip(';');
         }
         pad.length = 0;
         return carried;
@@ -812,8 +809,8 @@ public final class BookDroplets {
 
         int findFault() {
             goToStart();
-            // there are fewer orders than characters; one more look finds an empty text at fault
-            for (int i = 0; i <= MAX_PAD; i++) {
+            // each order takes a character at least
+            for (int i = 0; i < MAX_PAD; i++) {
                 if (!readOrder()) {
                     return place;
                 }

@@ -168,16 +168,28 @@ public final class PromiseTest {
         is("5: empty(0) of an empty cup", x.empty(0), 0);
         x.pour(0, 0, 4);
         is("5: empty(0)", x.empty(0), 1);
+        x.undo();
+        x.set(1, 50);
+        x.pour(0, 1, 1);
+        x.pour(0, 4, 1);
+        x.set(1, 0);
+        x.pour(0, 2, 1);
+        is("5: lost, to be forgotten", x.ofCup(0, 3), 1);
+        is("5: useless, to be forgotten", x.ofCup(0, 4), 1);
+        is("5: empty(0) once more", x.empty(0), 1);
         for (int what = 0; what <= 6; what++) {
             is("5: ofCup(0, " + what + ")", x.ofCup(0, what), 0);
         }
         is("5: known(0, 1)", x.known(0, 1), NONE);
         is("5: kept(0, 0, 0)", x.kept(0, 0, 0), NO_SUCH);
-        is("5: poured into all", x.count(3), 4);
+        is("5: poured into all", x.count(3), 7);
         x.undo();
         is("5: known(0, 1) after undo", x.known(0, 1), 2);
-        is("5: ofCup(0, 1) after undo", x.ofCup(0, 1), 3);
-        is("5: ofCup(0, 2) after undo", x.ofCup(0, 2), 4);
+        is("5: ofCup(0, 1) after undo", x.ofCup(0, 1), 4);
+        is("5: ofCup(0, 2) after undo", x.ofCup(0, 2), 7);
+        x.empty(0);
+        pourAll(x, 0, 2, 12, 10);
+        is("5: nothing that was kept is there for what is learnt", x.ofCup(0, 0), 0b1110);
     }
 
     private static void p06Pour() {
@@ -211,6 +223,8 @@ public final class PromiseTest {
         is("6: kept(0, 0, 0) of seed 65535", y.kept(0, 0, 0), 0b1010);
         is("6: kept(0, 1, 0) of seed 0", y.kept(0, 1, 0), 0b0101);
         is("6: pour(0, 1, 2)", y.pour(0, 1, 2), 4);
+        y.empty(0);
+        is("6: pour(0, 10, 9) learns one, and more later", y.pour(0, 10, 9), 4);
         BookDroplets z = bookWithCup(0);
         is("6: pour of an empty book", z.pour(0, 0, 1), NOT_POSSIBLE);
         is("6: bad pour of an empty book", z.pour(0, 0, 100), BAD_VALUE);
@@ -370,6 +384,12 @@ public final class PromiseTest {
         for (int seed = 0; seed < setsOfWay1.length; seed++) {
             is("8: WAY 1, droplet(" + seed + ", 1)", x.droplet(seed, 1), setsOfWay1[seed]);
         }
+        BookDroplets wide = book(16);
+        int[] degrees = {1, 1, 1, 1, 2, 2, 2, 2, 2, 2, 2, 2, 2, 2, 2, 2, 3, 3, 3, 3, 4, 4, 4, 4};
+        for (int seed = 0; seed < 200; seed++) {
+            int second = (75 * ((75 * seed + 74) % 65537) + 74) % 65537;
+            is("8: WAY 1, droplet(" + seed + ", 0) of sixteen", wide.droplet(seed, 0), degrees[second % 24]);
+        }
         // the second draw is 5624 and 5625 times the seed more: a multiple of 4 for every fourth seed
         x.set(0, 2);
         for (int seed = 0; seed < 8; seed++) {
@@ -439,6 +459,12 @@ public final class PromiseTest {
         is("10: known(0, 1)", x.known(0, 1), NONE);
         x.pour(0, 2, 1);
         is("10: known(0, 1) then", x.known(0, 1), 65535);
+        BookDroplets y = bookWithCup(16);
+        is("10: known(0, 15)", y.known(0, 15), NONE);
+        is("10: known(0, 16) of a full book", y.known(0, 16), NO_SUCH);
+        y.set(0, 2);
+        y.pour(0, 0, 99);
+        is("10: known(0, 15) then", y.known(0, 15), 1 << 15);
     }
 
     private static void p11Kept() {
@@ -761,8 +787,10 @@ public final class PromiseTest {
         is("20: LOSS", y.count(5), 60);
         y.undo();
         is("20: LOSS before", y.count(5), 0);
+        is("20: poured, before LOSS was set", y.count(3), 3);
         y.undo();
         is("20: WAY before", y.count(4), 1);
+        is("20: poured, before WAY was set", y.count(3), 3);
         y.undo();
         is("20: nothing is known", y.known(0, 1), NONE);
         is("20: undo() up to the fourth chapter", y.undo(), 1);
@@ -880,5 +908,15 @@ public final class PromiseTest {
         y.undo();
         y.undo();
         is("22: chapters before", y.count(0), 2);
+        is("22: undo() of the cup", y.undo(), 2);
+        is("22: chapter(12)", y.chapter(12), 2);
+        y.save(1);
+        y.undo();
+        y.undo();
+        y.chapter(20);
+        y.chapter(24);
+        y.restore(1);
+        // with three chapters seed 1 has all of them
+        is("22: the book's numbers", y.droplet(1, 2), 9 ^ 10 ^ 12);
     }
 }
