@@ -172,7 +172,7 @@ public final class BookDroplets {
             return 0;
         }
         trial.copyFrom(asked);
-        int learns = trial.take(fallen);
+        int learns = trial.receive(fallen);
         if (learns > 0) {
             return 2 + learns;
         }
@@ -193,7 +193,8 @@ public final class BookDroplets {
             if (isFull(trial)) {
                 return used;
             }
-            pourOne(trial, seed + used);
+            fallen.makeFrom(now, wrappedSeed(seed + used));
+            trial.receive(fallen);
         }
         return NONE;
     }
@@ -242,8 +243,21 @@ public final class BookDroplets {
     }
 
     public int carryOut() {
+        if (pad.findFault() != NONE) {
+            return BAD_TEXT;
+        }
         history.note(now);
-        return history.keepUnlessError(carryOrdersOut());
+        int carried = 0;
+        pad.goToStart();
+        for (int i = 0; i < MAX_PAD; i++) {
+            if (!pad.readOrder() || carryOneOut() < 0) {
+                break;
+            }
+            carried++;
+            pad.skip(';');
+        }
+        pad.length = 0;
+        return history.keepUnlessError(carried);
     }
 
     // ---- undo, saving
@@ -273,17 +287,17 @@ public final class BookDroplets {
     // ---- the changes themselves, which the orders of a text make too; the history learns nothing of them here
 
     private int changeSetting(int setting, int value) {
-        int before;
         if (setting == WAY && isWithin(value, 0, MAX_WAY)) {
-            before = now.way;
+            int before = now.way;
             now.way = value;
-        } else if (setting == LOSS && isWithin(value, 0, MAX_LOSS)) {
-            before = now.loss;
-            now.loss = value;
-        } else {
-            before = BAD_VALUE;
+            return before;
         }
-        return before;
+        if (setting == LOSS && isWithin(value, 0, MAX_LOSS)) {
+            int before = now.loss;
+            now.loss = value;
+            return before;
+        }
+        return BAD_VALUE;
     }
 
     private int addChapter(int number) {
@@ -333,7 +347,8 @@ public final class BookDroplets {
         }
         int learns = 0;
         for (int i = 0; i < many; i++) {
-            learns += pourOne(filled, seed + i);
+            fallen.makeFrom(now, wrappedSeed(seed + i));
+            learns += filled.receive(fallen);
         }
         now.poured += many;
         return learns;
@@ -360,23 +375,6 @@ public final class BookDroplets {
         return now.cupCount;
     }
 
-    private int carryOrdersOut() {
-        if (pad.findFault() != NONE) {
-            return BAD_TEXT;
-        }
-        int carried = 0;
-        pad.goToStart();
-        for (int i = 0; i < MAX_PAD; i++) {
-            if (!pad.readOrder() || carryOneOut() < 0) {
-                break;
-            }
-            carried++;
-            pad.skip(';');
-        }
-        pad.length = 0;
-        return carried;
-    }
-
     private int carryOneOut() {
         switch (pad.kind) {
             case 'c':
@@ -397,11 +395,6 @@ public final class BookDroplets {
             return BAD_VALUE;
         }
         return now.chapterCount == 0 ? NOT_POSSIBLE : 0;
-    }
-
-    private int pourOne(Cup target, int seed) {
-        fallen.makeFrom(now, wrappedSeed(seed));
-        return target.receive(fallen);
     }
 
     private boolean isFull(Cup asked) {
@@ -595,11 +588,6 @@ public final class BookDroplets {
                 lost++;
                 return 0;
             }
-            return take(droplet);
-        }
-
-        /** Takes a droplet that is not lost; answers how many chapters are learnt by it. */
-        int take(Droplet droplet) {
             int before = knownCount();
             int set = droplet.set & ~known;
             int number = droplet.number;
