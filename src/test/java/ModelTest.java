@@ -5,6 +5,7 @@ import java.util.List;
 public final class ModelTest {
     private static final int RUNS = 400;
     private static final int CALLS = 512;
+    private static final int MOST_AT_ONCE = 50;
     private static final int[] EDGES = {-1, -2, Integer.MIN_VALUE, Integer.MAX_VALUE, 65535, 65536, 0, 1, 16, 17, 24, 99,
         100, 999, 1000, 6, 7, 8, 3, 2};
     private static final String SIGNS = "cups;.*0123456789x";
@@ -39,7 +40,7 @@ public final class ModelTest {
             int number = below(65536);
             check("chapter(" + number + ")", program.chapter(number), model.chapter(number));
         }
-        while (calls.size() < CALLS - 20 && same) {
+        while (calls.size() < CALLS - MOST_AT_ONCE && same) {
             call();
             if (below(8) == 0) {
                 lookAtAll();
@@ -70,7 +71,7 @@ public final class ModelTest {
         for (int cup = 0; cup < 3; cup++) {
             int a = below(7);
             check("ofCup(" + cup + ", " + a + ")", program.ofCup(cup, a), model.ofCup(cup, a));
-            int rank = below(3) == 0 ? program.ofCup(cup, 1) - 1 : below(24);
+            int rank = below(3) == 0 ? model.ofCup(cup, 1) - 1 : below(24);
             int b = below(2);
             check("kept(" + cup + ", " + rank + ", " + b + ")", program.kept(cup, rank, b), model.kept(cup, rank, b));
             int c = below(16);

@@ -47,21 +47,6 @@ public final class PromiseTest {
         Due.is(call, got, due);
     }
 
-    /** A book whose chapters are 1, 2, 4 and so on. */
-    private static BookDroplets book(int chapters) {
-        BookDroplets x = new BookDroplets();
-        for (int i = 0; i < chapters; i++) {
-            x.chapter(1 << i);
-        }
-        return x;
-    }
-
-    private static BookDroplets bookWithCup(int chapters) {
-        BookDroplets x = book(chapters);
-        x.cup();
-        return x;
-    }
-
     private static void pourAll(BookDroplets x, int cup, int... seeds) {
         for (int seed : seeds) {
             x.pour(cup, seed, 1);
@@ -131,7 +116,7 @@ public final class PromiseTest {
         x.cup();
         is("3: full book with a cup", x.chapter(7), NOT_POSSIBLE);
         is("3: bad chapter with a cup", x.chapter(-1), BAD_VALUE);
-        BookDroplets y = bookWithCup(2);
+        BookDroplets y = Books.book(2, 1);
         is("3: chapter with a cup", y.chapter(3), NOT_POSSIBLE);
         is("3: chapters with a cup", y.count(0), 2);
         y.undo();
@@ -139,7 +124,7 @@ public final class PromiseTest {
     }
 
     private static void p04Cup() {
-        BookDroplets x = book(4);
+        BookDroplets x = Books.book(4, 0);
         is("4: cup 0", x.cup(), 0);
         is("4: cup 1", x.cup(), 1);
         is("4: cup 2", x.cup(), 2);
@@ -157,12 +142,12 @@ public final class PromiseTest {
         for (int what = 0; what <= 6; what++) {
             is("4: ofCup(2, " + what + ") of a new cup", x.ofCup(2, what), 0);
         }
-        BookDroplets y = bookWithCup(0);
+        BookDroplets y = Books.book(0, 1);
         is("4: a cup of an empty book is full", y.ofCup(0, 5), 1);
     }
 
     private static void p05Empty() {
-        BookDroplets x = bookWithCup(4);
+        BookDroplets x = Books.book(4, 1);
         is("5: empty(-1)", x.empty(-1), NO_SUCH);
         is("5: empty(1)", x.empty(1), NO_SUCH);
         is("5: empty(0) of an empty cup", x.empty(0), 0);
@@ -193,7 +178,7 @@ public final class PromiseTest {
     }
 
     private static void p06Pour() {
-        BookDroplets x = bookWithCup(4);
+        BookDroplets x = Books.book(4, 1);
         is("6: pour(-1, 0, 1)", x.pour(-1, 0, 1), NO_SUCH);
         is("6: pour(1, -1, 0)", x.pour(1, -1, 0), NO_SUCH);
         is("6: pour(0, -1, 1)", x.pour(0, -1, 1), BAD_VALUE);
@@ -217,7 +202,7 @@ public final class PromiseTest {
         is("6: pour(0, 0, 99)", x.pour(0, 0, 99), 0);
         is("6: poured", x.ofCup(0, 2), 105);
         is("6: useless at the end", x.ofCup(0, 4), 100);
-        BookDroplets y = bookWithCup(4);
+        BookDroplets y = Books.book(4, 1);
         // {1, 3}, {0, 2}, {0, 1, 3} and {1} of the seeds 65535, 0, 1 and 2
         is("6: pour(0, 65535, 2) goes on at 0", y.pour(0, 65535, 2), 0);
         is("6: kept(0, 0, 0) of seed 65535", y.kept(0, 0, 0), 0b1010);
@@ -225,14 +210,14 @@ public final class PromiseTest {
         is("6: pour(0, 1, 2)", y.pour(0, 1, 2), 4);
         y.empty(0);
         is("6: pour(0, 10, 9) learns one, and more later", y.pour(0, 10, 9), 4);
-        BookDroplets z = bookWithCup(0);
+        BookDroplets z = Books.book(0, 1);
         is("6: pour of an empty book", z.pour(0, 0, 1), NOT_POSSIBLE);
         is("6: bad pour of an empty book", z.pour(0, 0, 100), BAD_VALUE);
         is("6: pour of an empty book into no cup", z.pour(1, 0, 100), NO_SUCH);
     }
 
     private static void p06PourWithoutRoom() {
-        BookDroplets x = bookWithCup(4);
+        BookDroplets x = Books.book(4, 1);
         for (int i = 0; i < 24; i++) {
             is("6: droplet " + i + " is kept", x.pour(0, 0, 1), 0);
         }
@@ -254,7 +239,7 @@ public final class PromiseTest {
     }
 
     private static void p06Lost() {
-        BookDroplets x = bookWithCup(4);
+        BookDroplets x = Books.book(4, 1);
         x.set(1, 50);
         is("6: seed 1 is lost", x.pour(0, 1, 1), 0);
         is("6: seed 2 is lost", x.pour(0, 2, 1), 0);
@@ -335,10 +320,10 @@ public final class PromiseTest {
     }
 
     private static void p07SolveNothing() {
-        BookDroplets x = bookWithCup(0);
+        BookDroplets x = Books.book(0, 1);
         is("7: solve(0) of an empty book", x.solve(0), 0);
         is("7: it is a change", x.count(CHANGES), 2);
-        BookDroplets y = bookWithCup(3);
+        BookDroplets y = Books.book(3, 1);
         is("7: solve(0) of an empty cup", y.solve(0), 0);
         is("7: it is a change there, too", y.count(CHANGES), 5);
     }
@@ -372,7 +357,7 @@ public final class PromiseTest {
     }
 
     private static void p08Ways() {
-        BookDroplets x = book(4);
+        BookDroplets x = Books.book(4, 0);
         int[] setsOfWay0 = {1, 3, 14, 15, 4, 10, 11, 15, 2, 6, 13, 13};
         int[] setsOfWay1 = {5, 11, 2, 5, 15, 10, 9, 15, 10, 14, 4, 13, 8};
         x.set(0, 0);
@@ -384,7 +369,7 @@ public final class PromiseTest {
         for (int seed = 0; seed < setsOfWay1.length; seed++) {
             is("8: WAY 1, droplet(" + seed + ", 1)", x.droplet(seed, 1), setsOfWay1[seed]);
         }
-        BookDroplets wide = book(16);
+        BookDroplets wide = Books.book(16, 0);
         int[] degrees = {1, 1, 1, 1, 2, 2, 2, 2, 2, 2, 2, 2, 2, 2, 2, 2, 3, 3, 3, 3, 4, 4, 4, 4};
         for (int seed = 0; seed < 200; seed++) {
             int second = (75 * ((75 * seed + 74) % 65537) + 74) % 65537;
@@ -397,21 +382,21 @@ public final class PromiseTest {
         }
         is("8: WAY 2, droplet(0, 1)", x.droplet(0, 1), 1);
         is("8: WAY 2, droplet(1, 1)", x.droplet(1, 1), 15);
-        BookDroplets y = book(2);
+        BookDroplets y = Books.book(2, 0);
         is("8: WAY 1 of two chapters has no more", y.droplet(4, 0), 2);
-        BookDroplets z = book(1);
+        BookDroplets z = Books.book(1, 0);
         for (int way = 0; way <= 2; way++) {
             z.set(0, way);
             is("8: WAY " + way + " of one chapter, droplet(1, 0)", z.droplet(1, 0), 1);
             is("8: WAY " + way + " of one chapter, droplet(1, 1)", z.droplet(1, 1), 1);
         }
-        BookDroplets big = book(16);
+        BookDroplets big = Books.book(16, 0);
         big.set(0, 2);
         is("8: droplet of all sixteen", big.droplet(1, 1), 65535);
     }
 
     private static void p09OfCup() {
-        BookDroplets x = bookWithCup(4);
+        BookDroplets x = Books.book(4, 1);
         is("9: ofCup(-1, 0)", x.ofCup(-1, 0), NO_SUCH);
         is("9: ofCup(1, 0)", x.ofCup(1, 0), NO_SUCH);
         is("9: ofCup(1, 7)", x.ofCup(1, 7), NO_SUCH);
@@ -435,7 +420,7 @@ public final class PromiseTest {
         is("9: by solving then", x.ofCup(0, 6), 4);
         x.pour(0, 0, 1);
         is("9: useless at the end", x.ofCup(0, 4), 1);
-        BookDroplets y = bookWithCup(4);
+        BookDroplets y = Books.book(4, 1);
         pourAll(y, 0, 2, 9, 6);
         is("9: those that it knows count, too", y.ofCup(0, 6), 1);
         is("9: asking changes nothing", y.ofCup(0, 1), 2);
@@ -459,7 +444,7 @@ public final class PromiseTest {
         is("10: known(0, 1)", x.known(0, 1), NONE);
         x.pour(0, 2, 1);
         is("10: known(0, 1) then", x.known(0, 1), 65535);
-        BookDroplets y = bookWithCup(16);
+        BookDroplets y = Books.book(16, 1);
         is("10: known(0, 15)", y.known(0, 15), NONE);
         is("10: known(0, 16) of a full book", y.known(0, 16), NO_SUCH);
         y.set(0, 2);
@@ -468,7 +453,7 @@ public final class PromiseTest {
     }
 
     private static void p11Kept() {
-        BookDroplets x = bookWithCup(4);
+        BookDroplets x = Books.book(4, 1);
         is("11: kept(-1, 0, 0)", x.kept(-1, 0, 0), NO_SUCH);
         is("11: kept(1, 0, 0)", x.kept(1, 0, 0), NO_SUCH);
         is("11: kept(0, 0, 0)", x.kept(0, 0, 0), NO_SUCH);
@@ -487,7 +472,7 @@ public final class PromiseTest {
     }
 
     private static void p12Count() {
-        BookDroplets x = book(4);
+        BookDroplets x = Books.book(4, 0);
         is("12: count(-1)", x.count(-1), BAD_VALUE);
         is("12: count(8)", x.count(8), BAD_VALUE);
         for (int i = 0; i < 3; i++) {
@@ -509,13 +494,13 @@ public final class PromiseTest {
         Due.type(x, "u;s0");
         is("12: pad", x.count(6), 4);
         is("12: changes", x.count(7), 6);
-        BookDroplets y = bookWithCup(0);
+        BookDroplets y = Books.book(0, 1);
         y.cup();
         is("12: cups of an empty book are full", y.count(2), 0b11);
     }
 
     private static void p13Would() {
-        BookDroplets x = bookWithCup(4);
+        BookDroplets x = Books.book(4, 1);
         is("13: would(-1, 0)", x.would(-1, 0), NO_SUCH);
         is("13: would(1, -1)", x.would(1, -1), NO_SUCH);
         is("13: would(0, -1)", x.would(0, -1), BAD_VALUE);
@@ -534,14 +519,14 @@ public final class PromiseTest {
         x.set(1, 75);
         is("13: would(0, 0) of a lost one", x.would(0, 0), 0);
         is("13: would(0, 3) of one that is not lost", x.would(0, 3), 1);
-        BookDroplets y = bookWithCup(0);
+        BookDroplets y = Books.book(0, 1);
         is("13: would(0, 0) of an empty book", y.would(0, 0), NOT_POSSIBLE);
         is("13: would(0, 65536) of an empty book", y.would(0, 65536), BAD_VALUE);
         is("13: would(1, 0) of an empty book", y.would(1, 0), NO_SUCH);
     }
 
     private static void p14Needs() {
-        BookDroplets x = bookWithCup(4);
+        BookDroplets x = Books.book(4, 1);
         is("14: needs(-1, 0)", x.needs(-1, 0), NO_SUCH);
         is("14: needs(1, -1)", x.needs(1, -1), NO_SUCH);
         is("14: needs(0, -1)", x.needs(0, -1), BAD_VALUE);
@@ -555,7 +540,7 @@ public final class PromiseTest {
         is("14: needs(0, 5)", x.needs(0, 5), 1);
         x.pour(0, 5, 1);
         is("14: needs(0, 0) of a full cup", x.needs(0, 0), 0);
-        BookDroplets y = bookWithCup(0);
+        BookDroplets y = Books.book(0, 1);
         is("14: needs(0, 0) of an empty book", y.needs(0, 0), NOT_POSSIBLE);
         is("14: needs(0, -1) of an empty book", y.needs(0, -1), BAD_VALUE);
         is("14: needs(1, 0) of an empty book", y.needs(1, 0), NO_SUCH);
@@ -563,7 +548,7 @@ public final class PromiseTest {
 
     /** With one chapter a cup needs all droplets up to the first one that is not lost. */
     private static void p14NeedsEdges() {
-        BookDroplets x = bookWithCup(1);
+        BookDroplets x = Books.book(1, 1);
         x.set(1, 99);
         int arrives = firstAfterManyLost(600);
         is("14: the one that arrives", x.needs(0, arrives), 1);
@@ -571,7 +556,7 @@ public final class PromiseTest {
         is("14: 499 are lost", x.needs(0, arrives - 499), 500);
         is("14: 500 are lost", x.needs(0, arrives - 500), NONE);
         is("14: 501 are lost", x.needs(0, arrives - 501), NONE);
-        BookDroplets y = bookWithCup(4);
+        BookDroplets y = Books.book(4, 1);
         pourAll(y, 0, 0, 1, 9, 6, 11);
         is("14: all could be known by solving", y.ofCup(0, 6), 4);
         is("14: but a cup is not solved for it", y.needs(0, 12), 1);
@@ -771,7 +756,7 @@ public final class PromiseTest {
         is("20: one can be undone", x.count(CHANGES), 1);
         is("20: undo() of one", x.undo(), 0);
 
-        BookDroplets y = bookWithCup(4);
+        BookDroplets y = Books.book(4, 1);
         y.pour(0, 0, 3);
         y.set(0, 2);
         y.set(1, 60);
@@ -842,7 +827,7 @@ public final class PromiseTest {
     }
 
     private static void p21Save() {
-        BookDroplets x = bookWithCup(4);
+        BookDroplets x = Books.book(4, 1);
         is("21: save(-1)", x.save(-1), BAD_VALUE);
         is("21: save(2)", x.save(2), BAD_VALUE);
         is("21: save(0)", x.save(0), 1);
@@ -862,7 +847,7 @@ public final class PromiseTest {
     }
 
     private static void p22Restore() {
-        BookDroplets x = bookWithCup(4);
+        BookDroplets x = Books.book(4, 1);
         is("22: restore(-1)", x.restore(-1), BAD_VALUE);
         is("22: restore(2)", x.restore(2), BAD_VALUE);
         is("22: restore(1)", x.restore(1), NOT_POSSIBLE);
