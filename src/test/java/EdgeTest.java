@@ -27,6 +27,7 @@ public final class EdgeTest {
         whatIsLeftOfASet();
         twentyFourKept();
         peelingOfTwentyFour();
+        takenAwayOfTwentyFour();
         peelingOfSixteen();
         theFirstSuchOneIsTakenAway();
         fullIfAllAreKnown();
@@ -378,6 +379,8 @@ public final class EdgeTest {
         is("is learnt without room", pourSet(x, 0b100000), 2);
         is("keeps 23 then", x.ofCup(0, 1), 23);
         is("could be known then", x.ofCup(0, 6), 2);
+        is("the last one then", x.kept(0, 22, 0), 0b11);
+        is("its number then", x.kept(0, 22, 1), 0b11);
         is("there is room for one", x.pour(0, seedOf(0b1100), 1), 0);
         is("it is the last one", x.kept(0, 23, 0), 0b1100);
         is("useless is none of these", x.ofCup(0, 4), 1);
@@ -404,6 +407,28 @@ public final class EdgeTest {
         is("the last of 24 is peeled off, too", x.pour(0, seedOf(0b11000), 1), 0);
         is("three are learnt", pourSet(x, 0b100), 3);
         is("none is kept any more", x.ofCup(0, 1), 0);
+    }
+
+    /** Of 24 one is taken away: those behind it come one rank nearer. */
+    private static void takenAwayOfTwentyFour() {
+        for (int away : new int[] {0, 11, 22, 23}) {
+            BookDroplets x = sixteenByWay0();
+            List<Integer> sets = new ArrayList<>();
+            for (int i = 0; i < 24; i++) {
+                int set = i == away ? 0b11 : 0b100 << i % 12 | 1 << 15;
+                sets.add(set);
+                is("is kept", pourSet(x, set), 0);
+            }
+            is("keeps 24", x.ofCup(0, 1), 24);
+            is("learns two", pourSet(x, 1), 2);
+            sets.remove(away);
+            is("keeps 23", x.ofCup(0, 1), 23);
+            for (int rank = 0; rank < 23; rank++) {
+                is("set of " + rank + " without " + away, x.kept(0, rank, 0), sets.get(rank));
+                is("number of " + rank + " without " + away, x.kept(0, rank, 1), sets.get(rank));
+            }
+            is("there is no 24th", x.kept(0, 23, 0), NO_SUCH);
+        }
     }
 
     /** {0, 1}, {1, 2} and so on wait, the last ones first, until chapter 0 or 15 comes. */
