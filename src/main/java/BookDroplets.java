@@ -115,7 +115,7 @@ public final class BookDroplets {
         if (asked == null || !isWithin(chapter, 0, MAX_CHAPTERS - 1) || chapter >= now.chapterCount) {
             return NO_SUCH;
         }
-        return (asked.known & 1 << chapter) == 0 ? NONE : asked.learnt[chapter];
+        return (asked.known & (1 << chapter)) == 0 ? NONE : asked.learnt[chapter];
     }
 
     public int kept(int cup, int rank, int what) {
@@ -227,7 +227,7 @@ public final class BookDroplets {
             return TOO_MANY;
         }
         for (int i = many - 1; i >= 0; i--) {
-            pad.append((char) (characters >>> 8 * i & 255));
+            pad.append((char) ((characters >>> (8 * i)) & 255));
         }
         return pad.length;
     }
@@ -423,7 +423,7 @@ public final class BookDroplets {
     /** How many characters the number holds; 0 also if it is none that put() takes. */
     private static int charactersIn(long characters) {
         for (int i = 0; i < CHARACTERS_IN_LONG; i++) {
-            long rest = characters >>> 8 * i;
+            long rest = characters >>> (8 * i);
             if (rest == 0) {
                 return i;
             }
@@ -506,7 +506,7 @@ public final class BookDroplets {
         /** Adds the first chapter from a place on that the droplet has not. */
         private void addFrom(State book, int place) {
             int chapter = place;
-            for (int i = 0; i < MAX_CHAPTERS && (set & 1 << chapter) != 0; i++) {
+            for (int i = 0; i < MAX_CHAPTERS && (set & (1 << chapter)) != 0; i++) {
                 chapter = chapter + 1 < book.chapterCount ? chapter + 1 : 0;
             }
             if (isWithin(chapter, 0, MAX_CHAPTERS - 1)) {
@@ -592,7 +592,7 @@ public final class BookDroplets {
             int set = droplet.set & ~known;
             int number = droplet.number;
             for (int i = 0; i < MAX_CHAPTERS; i++) {
-                if ((droplet.set & known & 1 << i) != 0) {
+                if ((droplet.set & known & (1 << i)) != 0) {
                     number ^= learnt[i];
                 }
             }
@@ -815,7 +815,6 @@ public final class BookDroplets {
         /** Reads an order; answers false if it cannot be read on from the place where the reader stands then. */
         boolean readOrder() {
             kind = signHere();
-            many = 1;
             switch (kind) {
                 case 'c':
                     place++;
@@ -844,43 +843,38 @@ public final class BookDroplets {
         }
 
         private boolean readCup() {
-            int digit = digitHere();
-            if (digit < 0) {
+            cup = digitHere();
+            if (cup < 0) {
                 return false;
             }
-            cup = digit;
             place++;
             return true;
+        }
+
+        private boolean readNumber() {
+            number = takeNumber();
+            return number >= 0;
         }
 
         private boolean readMany() {
-            if (!skip('*')) {
-                return true;
-            }
-            int seed = number;
-            boolean isRead = readNumber();
-            many = number;
-            number = seed;
-            return isRead;
+            many = skip('*') ? takeNumber() : 1;
+            return many >= 0;
         }
 
-        // A digit that the number cannot take is left: nothing else can take it either, so the fault is there.
-        private boolean readNumber() {
-            int digit = digitHere();
-            if (digit < 0) {
-                return false;
-            }
-            number = digit;
-            place++;
-            for (int i = 0; i < MAX_PAD && number > 0; i++) {
-                digit = digitHere();
-                if (digit < 0 || number * 10 + digit > MAX_NUMBER) {
+        /** Takes digits as long as the number can have them; NONE if there is none. */
+        private int takeNumber() {
+            int taken = NONE;
+            // a digit that the number cannot have is left: nothing else can take it either, so the fault is there
+            for (int i = 0; i < MAX_PAD && taken != 0; i++) {
+                int digit = digitHere();
+                int longer = Math.max(taken, 0) * 10 + digit;
+                if (digit < 0 || longer > MAX_NUMBER) {
                     break;
                 }
-                number = number * 10 + digit;
+                taken = longer;
                 place++;
             }
-            return true;
+            return taken;
         }
 
         private int digitHere() {
