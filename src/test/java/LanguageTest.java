@@ -47,9 +47,12 @@ public final class LanguageTest {
             due.add("public " + method);
         }
         Due.is("the methods are those of the face: " + open, open.equals(due) ? 1 : 0, 1);
-        for (Method method : program.getDeclaredMethods()) {
-            boolean hides = Modifier.isPrivate(method.getModifiers()) && names.contains(method.getName());
-            Due.is(method + " bears the name of a public one", hides ? 1 : 0, 0);
+        for (Class<?> one : allClasses()) {
+            for (Method method : one.getDeclaredMethods()) {
+                boolean hides = Modifier.isPrivate(method.getModifiers()) && names.contains(method.getName());
+                Due.is(method + " bears the name of a public one", hides ? 1 : 0, 0);
+                Due.is(method + " takes at most seven parameters", method.getParameterCount() <= 7 ? 1 : 0, 1);
+            }
         }
         Set<String> constants = new TreeSet<>();
         for (Field field : program.getDeclaredFields()) {
@@ -62,14 +65,18 @@ public final class LanguageTest {
         Due.is("the constants are those of the face", constants.equals(CONSTANTS) ? 1 : 0, 1);
     }
 
-    private static void classesInside() {
-        Class<?>[] inside = BookDroplets.class.getDeclaredClasses();
-        Due.is("at most twelve classes", inside.length <= 11 ? 1 : 0, 1);
-        List<Class<?>> all = new ArrayList<>(List.of(inside));
+    private static List<Class<?>> allClasses() {
+        List<Class<?>> all = new ArrayList<>(List.of(BookDroplets.class.getDeclaredClasses()));
         all.add(BookDroplets.class);
-        for (Class<?> one : all) {
-            boolean isStatic = Modifier.isStatic(one.getModifiers()) || one == BookDroplets.class;
-            Due.is(one + " is static", isStatic ? 1 : 0, 1);
+        return all;
+    }
+
+    private static void classesInside() {
+        Due.is("at most twelve classes", allClasses().size() <= 12 ? 1 : 0, 1);
+        for (Class<?> one : allClasses()) {
+            int modifiers = one.getModifiers();
+            boolean isStatic = Modifier.isStatic(modifiers) && !Modifier.isPublic(modifiers) && !Modifier.isProtected(modifiers);
+            Due.is(one + " is static, and not open", isStatic || one == BookDroplets.class ? 1 : 0, 1);
             int fields = 0;
             for (Field field : one.getDeclaredFields()) {
                 boolean isShared = Modifier.isStatic(field.getModifiers());
